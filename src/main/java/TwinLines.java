@@ -588,7 +588,7 @@ public final class TwinLines {
                 commandAt[commands] = many;
                 commands++;
             }
-            dataAtEnd = isBits(word) ? dataAtEnd + 1 : 0;
+            dataAtEnd = word >= 0 && word < SORT ? dataAtEnd + 1 : 0;
             many++;
         }
 
@@ -651,7 +651,7 @@ public final class TwinLines {
         }
 
         boolean isBarred(boolean sends, int place) {
-            return bitAt(sends ? barredToSend : barredToGet, place) == 1;
+            return ((sends ? barredToSend : barredToGet) >> place & 1) == 1;
         }
 
         void setBarred(boolean sends, int place, boolean on) {
@@ -660,10 +660,6 @@ public final class TwinLines {
             } else {
                 barredToGet = withBit(barredToGet, place, on);
             }
-        }
-
-        void receive(int place, Words words, int from, int count) {
-            words.copyTo(from, received, indexOf(place, 0), count);
         }
 
         void send(int place, int count, Words reply) {
@@ -676,7 +672,7 @@ public final class TwinLines {
             }
         }
 
-        private static int indexOf(int place, int k) {
+        static int indexOf(int place, int k) {
             return (place - 1) * ROW + k;
         }
     }
@@ -842,7 +838,8 @@ public final class TwinLines {
 
         private int receive(Words words, int from, Words reply) {
             if (isFree(false)) {
-                places.receive(Command.placeOf(last), words, from, Command.countOf(last));
+                int first = Places.indexOf(Command.placeOf(last), 0);
+                words.copyTo(from, places.received, first, Command.countOf(last));
             }
             return answerStatus(reply);
         }
