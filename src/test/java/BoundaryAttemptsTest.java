@@ -186,6 +186,10 @@ public final class BoundaryAttemptsTest {
             check.due("status with " + name, x.result(0, 4), row[3]);
             check.due("answers with " + name, x.told(6, 6), row[2] == 0 ? 1 : 2);
         }
+        TwinLines later = with(start(), 2, 5, 30, 6, 1, 1, 0, 0);
+        later.alter(4, 1);
+        check.due("the second of the second attempt", later.run(1), 1);
+        row(check, later, 0, 1, 2, 1, 0, SIX, 2 * (40 + 8 + 40 + 4 + 20 + 4));
         TwinLines mute = with(start(), 2, 5, 30, 6, 1, 1, 0, 0);
         mute.mute(6, 0);
         mute.mute(6, 1);

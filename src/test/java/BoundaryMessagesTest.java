@@ -1,3 +1,5 @@
+import java.util.Arrays;
+
 /**
  * The document's Terms, from WORD to AN ANSWER: a check for each sentence that names a boundary case
  * of what terminals hear, take, do and answer. Messages that the controller never says by itself
@@ -14,7 +16,8 @@ public final class BoundaryMessagesTest {
     public static void main(String[] args) {
         Check.end(numbersOfWords(), countZeroIsThirtyTwo(), placesOfModes(), addresses(), atFirst(), hiddenFlaw(),
                 takesTheLast(), restOfTwoAndEighteen(), lastBeforeAny(), gets(), getsSoundDataAlone(), relayed(),
-                relayedHears(), sends(), modes(), checkWraps(), shutByWord(), serviceUnsaid(), barredOrBusy(),
+                relayedHears(), relayedEnds(), relayedOnce(), sends(), modes(),
+                clockToZero(), checkParts(), checkWraps(), eight(), shutByWord(), serviceUnsaid(), barredOrBusy(),
                 toAllNobodyAnswers(), shutOrMute(), relayedBehindOthers());
     }
 
@@ -167,9 +170,17 @@ public final class BoundaryMessagesTest {
         check.due("takes nothing", deaf.lines.told(5, 5), 0);
         Bench full = new Bench(0, 33);
         int[] message = new int[33];
-        java.util.Arrays.fill(message, own);
+        Arrays.fill(message, command(5, true, 0, 9));
+        message[32] = own;
         check.due("33 commands", full.say(message), 1);
         check.due("one is taken", full.lines.told(5, 5), 1);
+        check.due("it is the last one", full.lines.told(5, 1), own % SORT);
+        Bench zero = new Bench(0, 1);
+        zero.lines.terminal(0, 4);
+        check.due("a command of bits 0", zero.say(SORT), 0);
+        check.due("is one to 0", zero.lines.told(0, 5), 1);
+        check.due("is its LAST", zero.lines.told(0, 1), 0);
+        check.due("is none that it knows", zero.lines.told(0, 0), T);
         return check;
     }
 
@@ -316,6 +327,39 @@ public final class BoundaryMessagesTest {
         return check;
     }
 
+    private static Check relayedEnds() {
+        Check check = new Check("RELAYED at both ends of '0 .. 30'");
+        for (int to = 0; to <= 30; to += 30) {
+            Bench bench = new Bench(0, 2);
+            bench.lines.terminal(0, 4);
+            bench.lines.terminal(30, 4);
+            bench.lines.hold(30 - to, 1, 0, 61);
+            check.due("words", bench.say(command(to, false, 2, 1), command(30 - to, true, 1, 1)), 3);
+            check.due("got by " + to, bench.lines.got(to, 2, 0), 61);
+            check.due("who is last", bench.lines.heard(1, 3), to);
+            check.due("its status is bits " + to * 2_048, bench.lines.heard(1, 0), to * 2_048);
+            check.due("ALL but " + (30 - to), bench.say(command(ALL, false, 3, 1), command(30 - to, true, 1, 1)), 2);
+            check.due("got by " + to + " then", bench.lines.got(to, 3, 0), 61);
+        }
+        return check;
+    }
+
+    private static Check relayedOnce() {
+        Check check = new Check("'it waits for the answer to the message' (and not to the next one)");
+        Bench bench = new Bench(0, 2);
+        bench.lines.hold(6, 1, 0, 61);
+        bench.say(command(5, false, 2, 1), command(6, true, 1, 1));
+        bench.say(UNSOUND, command(6, true, 3, 1));
+        check.due("ERROR is not on", hasError(bench, 5), false);
+        check.due("got stays", bench.lines.got(5, 2, 0), 61);
+        check.due("answers", bench.lines.told(5, 6), 1);
+        bench.say(command(5, false, 2, 1), command(9, true, 1, 1));
+        check.due("no answer to it", hasError(bench, 5), true);
+        bench.say(UNSOUND, command(6, true, 1, 1));
+        check.due("answers then", bench.lines.told(5, 6), 1);
+        return check;
+    }
+
     private static Check sends() {
         Check check = new Check("'No mode, T, its own address, no rest'");
         for (int count = 1; count <= 32; count++) {
@@ -375,6 +419,74 @@ public final class BoundaryMessagesTest {
         check.due("CLOCK behind " + name, bench.lines.told(5, 2), does && code == 17 ? 300 : 0);
         check.due("CHECK behind " + name, bench.lines.told(5, 3), does && code == 3 ? 16 : 0);
         check.due("SHUT behind " + name, bench.lines.told(5, 4), does && code == 4 ? 2 : 0);
+    }
+
+    private static Check clockToZero() {
+        Check check = new Check("'1 CLOCK is 0', '17 CLOCK is the word'");
+        for (int address = 5; address <= ALL; address += ALL - 5) {
+            TwinLines x = new TwinLines();
+            x.terminal(5, 8);
+            x.transfer(3, 0, 0, address, 17, 0, 2, 0);
+            x.close();
+            x.transfer(3, 0, 0, address, 1, 0, 2, 0);
+            x.close();
+            for (int word : new int[] {65_535, 0, 1}) {
+                x.block(2, 0, word);
+                x.run(1);
+                check.due("17 with " + word, x.told(5, 2), word);
+                x.run(1);
+                check.due("1 behind " + word, x.told(5, 2), 0);
+            }
+        }
+        return check;
+    }
+
+    private static Check checkParts() {
+        Check check = new Check("'1 for FLAW (HIDDEN or not), 2 and 4 for lines 0 and 1 on which it is SHUT'");
+        for (int bits = 0; bits < 8; bits++) {
+            TwinLines x = new TwinLines();
+            x.terminal(5, 8);
+            x.note(5, 1, (bits & 1) != 0);
+            x.transfer(3, 0, 0, 31, (bits & 2) != 0 ? 4 : 5, 0, 0, 1);
+            x.transfer(3, 0, 0, 31, (bits & 4) != 0 ? 4 : 5, 0, 0, 0);
+            x.transfer(3, 0, 0, 31, 6, 0, 0, 0);
+            x.transfer(3, 0, 0, 31, 3, 0, 0, 0);
+            x.close();
+            x.run(1);
+            check.due("CHECK with " + bits, x.told(5, 3), 16 + bits);
+            check.due("SHUT with " + bits, x.told(5, 4), bits / 2);
+        }
+        return check;
+    }
+
+    private static Check eight() {
+        Check check = new Check("'8 not SHUT, FLAW not HIDDEN, CHECK and CLOCK 0'");
+        TwinLines x = new TwinLines();
+        x.terminal(5, 8);
+        x.note(5, 1, true);
+        x.block(2, 0, 65_535);
+        for (int code : new int[] {17, 6, 4, 3}) {
+            x.transfer(3, 0, 0, 31, code, 0, 2, 0);
+        }
+        x.transfer(3, 0, 0, 31, 4, 0, 2, 1);
+        x.close();
+        x.transfer(3, 0, 0, 5, 8, 0, 2, 0);
+        x.close();
+        x.run(1);
+        int[] before = {FIVE + 16, ALL * 2_048 + T + 4, 65_535, 16 + 1 + 4, 3};
+        int[] behind = {FIVE + 1, FIVE + T + 8, 0, 0, 0};
+        for (int what = 0; what < 5; what++) {
+            check.due("before: told " + what, x.told(5, what), before[what]);
+        }
+        x.run(1);
+        for (int what = 0; what < 5; what++) {
+            check.due("behind: told " + what, x.told(5, what), behind[what]);
+        }
+        check.due("it is SHUT no more, so it answers", x.result(5, 1), 1);
+        check.due("its status as it is then", x.result(5, 4), FIVE + 1);
+        x.run(1);
+        check.due("the number of codes 3 is counted on", x.told(5, 3), 32 + 1 + 4);
+        return check;
     }
 
     private static Check checkWraps() {
@@ -457,7 +569,7 @@ public final class BoundaryMessagesTest {
     }
 
     private static Check barredOrBusy() {
-        Check check = new Check("'BARRED for that T: ERROR is on. If that is so, or it is BUSY, it does nothing .. status alone'");
+        Check check = new Check("'BARRED for that T: ERROR is on. If that is so, or it is BUSY, it does nothing ..'");
         for (int bits = 0; bits < 8; bits++) {
             boolean barredGet = (bits & 1) != 0;
             boolean barredSend = (bits & 2) != 0;

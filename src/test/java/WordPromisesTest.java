@@ -153,8 +153,9 @@ public final class WordPromisesTest {
         Check check = new Check("promise 21");
         TwinLines x = new TwinLines();
         for (int bits = 0; bits < 65_536; bits += 7) {
-            check.due("command", x.word(x.halves(true, bits)), 65_536 + bits);
-            check.due("data", x.word(x.halves(false, bits)), bits);
+            TwinLines each = new TwinLines();
+            check.due("command", each.word(each.halves(true, bits)), 65_536 + bits);
+            check.due("data", each.word(each.halves(false, bits)), bits);
         }
         for (int half = 0; half < 40; half++) {
             check.due("one half other", x.word(x.halves(true, 1_234) ^ 1L << half), -1);
@@ -165,7 +166,8 @@ public final class WordPromisesTest {
         check.due("two bits other", x.word(x.halves(false, 1_234) ^ 15L << 8), 1_234 ^ 24);
         check.due("the other sync", x.word(x.halves(false, 1_234) ^ SYNC), 65_536 + 1_234);
         long sound = x.halves(true, 3);
-        for (long bad : new long[] {0, -1, (1L << 40) - 1, 1L << 40, sound | 1L << 40, sound | 1L << 63, Long.MIN_VALUE, Long.MAX_VALUE}) {
+        long[] none = {0, -1, (1L << 40) - 1, 1L << 40, sound | 1L << 40, sound | 1L << 63, Long.MIN_VALUE, Long.MAX_VALUE};
+        for (long bad : none) {
             check.due("word(" + bad + ")", x.word(bad), -1);
         }
         return check;
